@@ -1,0 +1,106 @@
+import java.io.IOException;
+import java.lang.reflect.Constructor;
+import java.lang.reflect.Field;
+import java.lang.reflect.Method;
+import java.lang.reflect.Modifier;
+import java.nio.file.Files;
+import java.nio.file.Path;
+import java.util.Set;
+import java.util.TreeSet;
+import java.util.regex.Matcher;
+import java.util.regex.Pattern;
+
+/** The document's face and no more of it, and what of the language's rules can be seen without reading. */
+public final class FaceTest {
+    private static final Checks CHECKS = new Checks();
+    private static final String[] FACE = {
+        "int book(int,int,int,int)", "int take(int)", "int crack(int,int,boolean)", "int mould(int,int)", "int year(int,int)",
+        "int press(int,int)", "int date()", "int append(int)", "int clearBuffer()", "int firstError()", "int books()",
+        "int undo()", "int bookOf(int,int)", "int ahead(int,int)", "int count(int)", "int order(int)", "int place(int,int)",
+        "int wrong(int)", "int tells(int)", "int ifYear(int,int,int)", "double datedShare()", "long digest()"};
+
+    public static void main(String[] args) throws IOException {
+        methods();
+        fieldsAndConstructors();
+        classesInside();
+        source(Files.readString(Path.of("src/main/java/ColophonHunt.java")));
+        CHECKS.close("FaceTest");
+    }
+
+    private static void dueTrue(String what, boolean got) {
+        CHECKS.due(what, got ? 1 : 0, 1);
+    }
+
+    private static void methods() {
+        Set<String> want = new TreeSet<>(Set.of(FACE));
+        Set<String> names = new TreeSet<>();
+        Set<String> got = new TreeSet<>();
+        for (Method m : ColophonHunt.class.getDeclaredMethods()) {
+            if (Modifier.isPublic(m.getModifiers())) {
+                got.add(signature(m));
+                names.add(m.getName());
+            }
+        }
+        dueTrue("the public methods " + got, got.equals(want));
+        for (Method m : ColophonHunt.class.getDeclaredMethods()) {
+            boolean isPublic = Modifier.isPublic(m.getModifiers());
+            dueTrue(m + " is public or private", isPublic || Modifier.isPrivate(m.getModifiers()));
+            dueTrue(m + " bears the name of a public one", isPublic || !names.contains(m.getName()));
+        }
+    }
+
+    private static String signature(Method m) {
+        StringBuilder text = new StringBuilder().append(m.getReturnType()).append(' ').append(m.getName()).append('(');
+        for (Class<?> type : m.getParameterTypes()) {
+            text.append(text.charAt(text.length() - 1) == '(' ? "" : ",").append(type);
+        }
+        return text.append(')').toString();
+    }
+
+    private static void fieldsAndConstructors() {
+        int mod = ColophonHunt.class.getModifiers();
+        dueTrue("the class is public and final", Modifier.isPublic(mod) && Modifier.isFinal(mod));
+        for (Field f : ColophonHunt.class.getDeclaredFields()) {
+            boolean isConstant = f.getName().equals("NONE");
+            dueTrue(f + " is seen as the document says",
+                isConstant ? Modifier.isPublic(f.getModifiers()) : Modifier.isPrivate(f.getModifiers()));
+            dueTrue(f + " is no static state", !Modifier.isStatic(f.getModifiers()) || Modifier.isFinal(f.getModifiers()));
+        }
+        Constructor<?>[] made = ColophonHunt.class.getDeclaredConstructors();
+        dueTrue("one public constructor without arguments",
+            made.length == 1 && made[0].getParameterCount() == 0 && Modifier.isPublic(made[0].getModifiers()));
+    }
+
+    private static void classesInside() {
+        Class<?>[] inside = ColophonHunt.class.getDeclaredClasses();
+        dueTrue("few classes", inside.length <= 11);
+        for (Class<?> c : inside) {
+            dueTrue(c + " is static and not public",
+                Modifier.isStatic(c.getModifiers()) && !Modifier.isPublic(c.getModifiers()));
+            int fields = 0;
+            for (Field f : c.getDeclaredFields()) {
+                fields += Modifier.isStatic(f.getModifiers()) ? 0 : 1;
+            }
+            dueTrue(c + " has few fields", fields <= 20);
+        }
+    }
+
+    private static void source(String text) {
+        String code = text.replaceAll("(?s)/\\*.*?\\*/", "").replaceAll("//[^\n]*", "").replaceAll("\"[^\"\n]*\"", "\"\"");
+        String[] out = {"\\bimport\\b", "\\bpackage\\b", "->", "::", "\\bfinally\\b", "\\bcatch\\b", "\\bsynchronized\\b",
+            "\\bassert\\b", "\\binstanceof\\b", "\\bSystem\\b", "\\bDouble\\b", "Exact\\b", "\\bwhile\\b"};
+        for (String rule : out) {
+            Matcher found = Pattern.compile(rule).matcher(code);
+            dueTrue("the source has " + rule, !found.find());
+        }
+        Matcher library = Pattern.compile("\\b(Integer|Math|Long)\\.(\\w+)").matcher(code);
+        Set<String> allowed = Set.of("Integer.bitCount", "Math.max", "Math.min");
+        while (library.find()) {
+            dueTrue(library.group() + " is allowed", allowed.contains(library.group()));
+        }
+        for (int i = 0; i < text.length(); i++) {
+            char c = text.charAt(i);
+            dueTrue("sign " + (int) c, c >= 1 && c <= 127);
+        }
+    }
+}
