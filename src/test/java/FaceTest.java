@@ -87,8 +87,8 @@ public final class FaceTest {
 
     private static void source(String text) {
         String code = text.replaceAll("(?s)/\\*.*?\\*/", "").replaceAll("//[^\n]*", "").replaceAll("\"[^\"\n]*\"", "\"\"");
-        String[] out = {"\\bimport\\b", "\\bpackage\\b", "->", "::", "\\bfinally\\b", "\\bcatch\\b", "\\bsynchronized\\b",
-            "\\bassert\\b", "\\binstanceof\\b", "\\bSystem\\b", "\\bDouble\\b", "Exact\\b", "\\bwhile\\b"};
+        String[] out = {"\\bimport\\b", "\\bpackage\\b", "->", "::", "\\bfinally\\b", "\\bsynchronized\\b",
+            "\\bassert\\b", "\\bSystem\\b(?!\\.arraycopy)", "\\bDouble\\b", "Exact\\b"};
         for (String rule : out) {
             Matcher found = Pattern.compile(rule).matcher(code);
             dueTrue("the source has " + rule, !found.find());

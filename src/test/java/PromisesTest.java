@@ -362,6 +362,12 @@ public final class PromisesTest {
         due("14 and so on", chain.bookOf(3, 5), 1490);
         due("14 no year", chain.bookOf(4, 5), 1450);
         due("14 no year", chain.bookOf(4, 6), 1999);
+        ColophonHunt through = withBooks("0a;0abm1;0am2y1500");
+        due("15 not by themselves", through.ahead(0, 2), 0);
+        due("14 last year through a book that contradicts", through.bookOf(0, 6), 1500);
+        ColophonHunt back = withBooks("0am1y1500;0-m2;0a");
+        due("15 not by themselves", back.ahead(0, 2), 0);
+        due("14 first year through a book that contradicts", back.bookOf(2, 5), 1500);
         ColophonHunt crossed = withBooks("0-y1700;0ay1600");
         due("14 first above last", crossed.bookOf(1, 5), 1700);
         due("14 first above last", crossed.bookOf(1, 6), 1600);
@@ -402,6 +408,8 @@ public final class PromisesTest {
         due("16 contradict", x.count(3), 1);
         due("16 no order", x.count(4), 0);
         due("16 one way", x.count(5), 3);
+        due("16 the first two contradict", withBooks("0a;0b").count(3), 1);
+        due("16 the second ahead of the first", withBooks("0a;0-").count(5), 1);
         thrown("16 below", IAE, x, () -> x.count(-1));
         thrown("16 above", IAE, x, () -> x.count(10));
         ColophonHunt full = new ColophonHunt();
@@ -449,10 +457,23 @@ public final class PromisesTest {
         due("18 none fits, least", x.place(3, 0), NONE);
         due("18 none fits, greatest", x.place(3, 1), NONE);
         due("18 none fits, first", x.place(3, 2), 0);
+        // In a chain of three, the first and the last of which tell nothing of one another.
+        duePlaces("0ay1500;0-;1-y1600", 1, 0, 2);
+        duePlaces("1-y1600;0ay1500;0-", 2, 1, 0);
+        duePlaces("0-;0ay1500;1-y1600", 0, 1, 2);
         ColophonHunt alone = withBooks("0-");
         due("18 alone", alone.place(0, 0), 0);
         due("18 alone", alone.place(0, 1), 0);
         due("18 alone", alone.place(0, 2), 1);
+    }
+
+    private static void duePlaces(String text, int... places) {
+        ColophonHunt x = withBooks(text);
+        for (int b = 0; b < places.length; b++) {
+            due("18 least of " + text, x.place(b, 0), places[b]);
+            due("18 greatest of " + text, x.place(b, 1), places[b]);
+            due("18 first of " + text, x.place(b, 2), places[b] == 0 ? 1 : 0);
+        }
     }
 
     private static void wrong() {
@@ -572,6 +593,8 @@ public final class PromisesTest {
         dueDigest("", "");
         dueDigest("", "0a~!");
         dueDigest("0a", "");
+        dueDigest("0-;0ay1700", "");
+        dueDigest("0a;0-y1700", "");
         dueDigest("0a;0ab;1-m5y1700;0b", "2");
         dueDigest("0-y1500;0a;0abm3y1500;1-;1a;2-", "");
         for (int years = 0; years <= 10; years++) {
