@@ -15,6 +15,14 @@ final class Checks {
         }
     }
 
+    void dueTrue(String what, boolean got) {
+        asked++;
+        if (!got) {
+            wrong++;
+            System.out.println("it is not so that " + what);
+        }
+    }
+
     void throwsExactly(String what, Class<? extends RuntimeException> want, Call call) {
         asked++;
         String got;

@@ -1,11 +1,5 @@
 /** Each promise by hand: ordinary inputs, the edges that the document names, and wrong inputs. */
-public final class PromisesTest {
-    private static final int NONE = ColophonHunt.NONE;
-    private static final Class<IllegalArgumentException> IAE = IllegalArgumentException.class;
-    private static final Class<IllegalStateException> ISE = IllegalStateException.class;
-    private static final Class<IndexOutOfBoundsException> IOOBE = IndexOutOfBoundsException.class;
-    private static final Checks CHECKS = new Checks();
-
+public final class PromisesTest extends Bench {
     public static void main(String[] args) {
         newObject();
         book();
@@ -33,34 +27,10 @@ public final class PromisesTest {
         CHECKS.close("PromisesTest");
     }
 
-    private static void due(String what, long got, long want) {
-        CHECKS.due(what, got, want);
-    }
-
     private static void thrown(String what, Class<? extends RuntimeException> want, ColophonHunt x, Checks.Call call) {
         long before = x.digest();
         CHECKS.throwsExactly(what, want, call);
         due(what + " changed something", x.digest(), before);
-    }
-
-    private static void type(ColophonHunt x, String text) {
-        for (char c : text.toCharArray()) {
-            x.append(c);
-        }
-    }
-
-    private static ColophonHunt withBooks(String text) {
-        ColophonHunt x = new ColophonHunt();
-        type(x, text);
-        x.books();
-        return x;
-    }
-
-    private static void dueBook(String what, ColophonHunt x, int book, int press, int letters, int mould, int year) {
-        due(what + " press", x.bookOf(book, 0), press);
-        due(what + " letters", x.bookOf(book, 1), letters);
-        due(what + " mould", x.bookOf(book, 2), mould);
-        due(what + " year", x.bookOf(book, 3), year);
     }
 
     private static void newObject() {
