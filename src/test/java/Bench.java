@@ -1,4 +1,7 @@
-/** What the tests by hand share: hunts, and calls that are refused, only look, or can be undone. */
+/**
+ * What the tests by hand share: hunts, and calls that are refused, only look, or can be undone. The document lets the
+ * calls behind an object's 512th answer what they like: what is asked here of one object stays below that.
+ */
 abstract class Bench {
     static final int NONE = ColophonHunt.NONE;
     static final int LEAST = Integer.MIN_VALUE;
@@ -79,18 +82,30 @@ abstract class Bench {
         due(what + " year", x.bookOf(book, 3), year);
     }
 
-    /** All that the books tell, without the saved states and the buffer. */
+    /** The books, by the numbers that were put in. */
     static String shown(ColophonHunt x) {
         StringBuilder text = new StringBuilder();
         int size = x.count(0);
-        for (int what = 0; what <= 9; what++) {
-            text.append(what == 6 ? "," : x.count(what) + ",");
-        }
         for (int b = 0; b < size; b++) {
-            for (int what = 0; what <= 10; what++) {
+            for (int what = 0; what <= 3; what++) {
                 text.append(what == 0 ? ";" : ",").append(x.bookOf(b, what));
             }
-            text.append(" ").append(x.place(b, 0)).append(x.place(b, 1)).append(x.order(b)).append(x.ifYear(b, 1700, 0));
+        }
+        return text.toString();
+    }
+
+    /** The books, and what they tell, without the saved states and the buffer; 84 calls, if there are 10 books. */
+    static String told(ColophonHunt x) {
+        StringBuilder text = new StringBuilder(shown(x));
+        for (int what = 1; what <= 9; what++) {
+            text.append(what == 1 ? " " : ",").append(what == 6 ? "" : x.count(what));
+        }
+        int size = x.count(0);
+        for (int b = 0; b < size; b++) {
+            text.append(" ").append(x.bookOf(b, 5)).append("-").append(x.bookOf(b, 6)).append(" ").append(x.order(b));
+        }
+        if (size > 0) {
+            text.append(" ").append(x.ifYear(0, 1700, 0));
         }
         return text.append(" ").append(x.wrong(1)).append(" ").append(x.tells(0)).append(" ").append(x.datedShare()).toString();
     }
@@ -107,6 +122,7 @@ abstract class Bench {
             x.undo();
             want.undo();
             dueShown(what + ": saved state " + left, shown(x), shown(want));
+            due(what + ": digest of saved state " + left, x.digest(), want.digest());
         }
         due(what + ": buffer", x.clearBuffer(), want.clearBuffer());
     }
@@ -129,14 +145,14 @@ abstract class Bench {
     /** The call saves one state, and undo brings back the books from before it. */
     static void undoable(String what, Maker maker, Use call) {
         ColophonHunt x = maker.make();
-        String before = shown(x);
+        String before = told(x);
         int saved = x.count(6);
         call.answer(x);
         due(what + " saves", x.count(6), Math.min(saved + 1, 6));
         // Looked at between the call and undo, so that nothing that was found there can be kept.
-        shown(x);
+        x.digest();
         due(what + " is undone", x.undo(), Math.min(saved, 5));
-        dueShown(what, shown(x), before);
+        dueShown(what, told(x), before);
         ColophonHunt other = maker.make();
         for (int left = x.count(6); left > 0; left--) {
             x.undo();

@@ -411,15 +411,26 @@ public final class BoundarySupposingTest extends Bench {
         due("23 " + what, x.digest(), byTheList(x, buffer));
     }
 
-    private static void digestOfBooks0To10() {
+    /** Books of 2 presses; each digest on the way would tell if it left something over to the next one. */
+    private static ColophonHunt mixed(int books) {
         ColophonHunt x = new ColophonHunt();
-        dueByTheList("without books", x, "");
-        for (int b = 0; b <= 9; b++) {
+        for (int b = 0; b < books; b++) {
             x.book(b % 2, (1 << (b / 2)) - 1, b % 3 == 0 ? NONE : b, b % 4 == 1 ? 1690 + b : NONE);
-            dueByTheList("books " + (b + 1), x, "");
+            x.digest();
+        }
+        return x;
+    }
+
+    private static void digestOfBooks0To10() {
+        for (int books = 0; books <= 10; books++) {
+            dueByTheList("books " + books, mixed(books), "");
         }
         for (int left = 9; left >= 0; left--) {
-            x.take(left / 2);
+            ColophonHunt x = mixed(10);
+            for (int then = 9; then >= left; then--) {
+                x.take(then / 2);
+                x.digest();
+            }
             dueByTheList("books left " + left, x, "");
         }
         dueByTheList("full", full(), "0-;".repeat(19) + "0-m");
@@ -438,9 +449,13 @@ public final class BoundarySupposingTest extends Bench {
             dueByTheList("saved " + calls, x, "");
             x.date();
         }
+        ColophonHunt back = withBooks("0-");
+        for (int calls = 1; calls <= 9; calls++) {
+            back.date();
+        }
         for (int left = 5; left >= 0; left--) {
-            x.undo();
-            dueByTheList("left " + left, x, "");
+            back.undo();
+            dueByTheList("left " + left, back, "");
         }
     }
 
@@ -462,12 +477,13 @@ public final class BoundarySupposingTest extends Bench {
 
     private static void digestOfEachShare() {
         for (int all = 1; all <= 10; all++) {
-            ColophonHunt x = withPlain(all);
             for (int dated = 0; dated <= all; dated++) {
-                dueByTheList(dated + " of " + all, x, "");
-                if (dated < all) {
-                    x.year(dated, 1600);
+                ColophonHunt x = withPlain(all);
+                for (int b = 0; b < dated; b++) {
+                    x.year(b, 1600);
+                    x.digest();
                 }
+                dueByTheList(dated + " of " + all, x, "");
             }
         }
     }

@@ -38,6 +38,10 @@ final class Checks {
         System.out.println(what + " " + got + ", due is " + want.getSimpleName());
     }
 
+    int asked() {
+        return asked;
+    }
+
     boolean isAnyWrong() {
         return wrong > 0;
     }

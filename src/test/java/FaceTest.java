@@ -13,11 +13,18 @@ import java.util.regex.Pattern;
 /** The document's face and no more of it, and what of the language's rules can be seen without reading. */
 public final class FaceTest {
     private static final Checks CHECKS = new Checks();
+    private static final String IAE = "IllegalArgumentException";
+    private static final String ISE = "IllegalStateException";
+    private static final String IOOBE = "IndexOutOfBoundsException";
     private static final String[] FACE = {
-        "int book(int,int,int,int)", "int take(int)", "int crack(int,int,boolean)", "int mould(int,int)", "int year(int,int)",
-        "int press(int,int)", "int date()", "int append(int)", "int clearBuffer()", "int firstError()", "int books()",
-        "int undo()", "int bookOf(int,int)", "int ahead(int,int)", "int count(int)", "int order(int)", "int place(int,int)",
-        "int wrong(int)", "int tells(int)", "int ifYear(int,int,int)", "double datedShare()", "long digest()"};
+        "int book(int,int,int,int) throws " + IAE + "," + ISE, "int take(int) throws " + IOOBE,
+        "int crack(int,int,boolean) throws " + IOOBE, "int mould(int,int) throws " + IOOBE + "," + IAE,
+        "int year(int,int) throws " + IOOBE + "," + IAE, "int press(int,int) throws " + IOOBE + "," + IAE, "int date()",
+        "int append(int) throws " + IAE + "," + ISE, "int clearBuffer()", "int firstError()",
+        "int books() throws " + IAE + "," + ISE, "int undo() throws " + ISE, "int bookOf(int,int) throws " + IOOBE + "," + IAE,
+        "int ahead(int,int) throws " + IOOBE + "," + IAE, "int count(int) throws " + IAE, "int order(int) throws " + IAE,
+        "int place(int,int) throws " + IOOBE + "," + IAE, "int wrong(int) throws " + IAE, "int tells(int) throws " + IOOBE,
+        "int ifYear(int,int,int) throws " + IOOBE + "," + IAE, "double datedShare()", "long digest()"};
 
     public static void main(String[] args) throws IOException {
         methods();
@@ -37,6 +44,7 @@ public final class FaceTest {
         Set<String> got = new TreeSet<>();
         for (Method m : ColophonHunt.class.getDeclaredMethods()) {
             if (Modifier.isPublic(m.getModifiers())) {
+                dueTrue(m + " is a method of the object", !Modifier.isStatic(m.getModifiers()));
                 got.add(signature(m));
                 names.add(m.getName());
             }
@@ -54,7 +62,13 @@ public final class FaceTest {
         for (Class<?> type : m.getParameterTypes()) {
             text.append(text.charAt(text.length() - 1) == '(' ? "" : ",").append(type);
         }
-        return text.append(')').toString();
+        text.append(')');
+        String link = " throws ";
+        for (Class<?> thrown : m.getExceptionTypes()) {
+            text.append(link).append(thrown.getSimpleName());
+            link = ",";
+        }
+        return text.toString();
     }
 
     private static void fieldsAndConstructors() {
@@ -64,6 +78,8 @@ public final class FaceTest {
             boolean isConstant = f.getName().equals("NONE");
             dueTrue(f + " is seen as the document says",
                 isConstant ? Modifier.isPublic(f.getModifiers()) : Modifier.isPrivate(f.getModifiers()));
+            dueTrue(f + " is a number that never changes", !isConstant
+                || f.getType() == int.class && Modifier.isStatic(f.getModifiers()) && Modifier.isFinal(f.getModifiers()));
             dueTrue(f + " is no static state", !Modifier.isStatic(f.getModifiers()) || Modifier.isFinal(f.getModifiers()));
         }
         Constructor<?>[] made = ColophonHunt.class.getDeclaredConstructors();

@@ -1,13 +1,21 @@
 import java.util.Random;
 
-/** Long runs of calls, the same each time, against the naive hunt. */
+/** Runs of 512 calls, as many as the document lets an object answer, the same each time, against the naive hunt. */
 public final class RandomRunsTest {
     private static final Class<IllegalArgumentException> IAE = IllegalArgumentException.class;
     private static final Class<IllegalStateException> ISE = IllegalStateException.class;
     private static final Class<IndexOutOfBoundsException> IOOBE = IndexOutOfBoundsException.class;
     private static final Checks CHECKS = new Checks();
 
+    private static final int RUNS = 6000;
+    private static final int MOST_CALLS = 512;
+    /** The calls of the longest change, a text of 60 characters, and of a look at 6 books. */
+    private static final int LONGEST_CHANGE = 64;
+    private static final int LONGEST_LOOK = 148;
+
     private final Random random;
+    private final int seed;
+    private final int askedBefore;
     private final int most;
     private final int richness;
     private final ColophonHunt hunt = new ColophonHunt();
@@ -15,21 +23,56 @@ public final class RandomRunsTest {
 
     private RandomRunsTest(int seed) {
         random = new Random(seed);
+        this.seed = seed;
+        askedBefore = CHECKS.asked();
         most = seed % 8 == 0 ? 10 : 6;
         richness = seed % 3;
     }
 
     public static void main(String[] args) {
-        for (int seed = 0; seed < 400 && !CHECKS.isAnyWrong(); seed++) {
-            RandomRunsTest run = new RandomRunsTest(seed);
-            for (int call = 0; call < 60; call++) {
-                run.change("run " + seed + ", call " + call + ": ");
-                if (run.naive.books.size() <= 6) {
-                    run.look("run " + seed + ", call " + call + ": ");
-                }
-            }
+        for (int seed = 0; seed < RUNS && !CHECKS.isAnyWrong(); seed++) {
+            new RandomRunsTest(seed).run();
         }
         CHECKS.close("RandomRunsTest");
+    }
+
+    /** Each answer that is asked is one call. */
+    private int calls() {
+        return CHECKS.asked() - askedBefore;
+    }
+
+    private String at() {
+        return "run " + seed + ", call " + (calls() + 1) + ": ";
+    }
+
+    private void run() {
+        int looksSeldom = 1 + seed % 5 * 3;
+        while (calls() + LONGEST_CHANGE <= MOST_CALLS) {
+            change(at());
+            if (upTo(looksSeldom) == 0 && naive.books.size() <= 6 && calls() + LONGEST_LOOK <= MOST_CALLS) {
+                look(at());
+            }
+        }
+        while (calls() < MOST_CALLS) {
+            oneCall(at());
+        }
+    }
+
+    private void oneCall(String at) {
+        switch (upTo(8)) {
+            case 0: crackLetter(at); break;
+            case 1: changeMould(at); break;
+            case 2: changeYear(at); break;
+            case 3: changePress(at); break;
+            case 4: due(at + "date", hunt.date(), naive.date()); break;
+            case 5: undo(at); break;
+            default: countSomething(at); break;
+        }
+    }
+
+    private void countSomething(String at) {
+        int what = naive.books.size() <= 6 ? upTo(10) : 0;
+        due(at + "count " + what, hunt.count(what), naive.count(what));
     }
 
     private int upTo(int bound) {
